@@ -75,6 +75,7 @@ final class Code {
         return x;
     }
 
+    /** Gives these bytes to an object whose section is empty. */
     static void feed(FrameUnwinder x, byte[] bytes) {
         for (int k = 0; k < bytes.length; k += 4) {
             int four = 0;
