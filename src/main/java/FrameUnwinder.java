@@ -498,7 +498,10 @@ public final class FrameUnwinder {
         }
     }
 
-    /** One entry; of a common entry, common is its own index, and first and range are not used. */
+    /**
+     * One entry. Frame entries have the index of their common entry, first and range; common entries
+     * have the factors and the return register.
+     */
     private static final class Entry {
         private boolean isFrame;
         private int begins;
@@ -620,7 +623,6 @@ public final class FrameUnwinder {
             if (in.broken || entry.returnRegister < 0 || entry.returnRegister >= REGISTERS) {
                 return at;
             }
-            entry.common = count;
             entry.instructions = in.at;
             return NONE;
         }

@@ -101,6 +101,11 @@ public final class FaultTest {
         unsound("return register 8", 11, commonOf(1, 1, 1, 8));
         unsound("return register -1", 11, commonOf(1, 1, 1, 0xFF, 0xFF, 0xFF, 0xFF, 0x0F));
         unsound("a second entry's return register", NEXT + 11, COMMON, commonOf(1, 1, 1, 9));
+        for (int size = 0; size < 4; size++) {
+            int[] part = java.util.Arrays.copyOf(new int[] {1, 1, 1, 1}, size);
+            unsound(size + " numbers and more bytes behind the entry", 8 + size,
+                commonOf(part), Code.of(1, 1, 1, 1, 0, 0, 0, 0));
+        }
         sound("return register 7", 1, commonOf(1, 1, 1, 7));
         sound("numbers of five bytes", 1, commonOf(1, 0xFF, 0xFF, 0xFF, 0xFF, 0x7F,
             0x80, 0x80, 0x80, 0x80, 0x70, 0x87, 0x80, 0x80, 0x80, 0));
@@ -109,6 +114,10 @@ public final class FaultTest {
 
     private static void frameHeads() {
         byte[] id = Code.u4(0);
+        for (int size = 0; size < 8; size++) {
+            unsound(size + " bytes and more behind the entry", NEXT + (size < 4 ? 8 : 12), COMMON,
+                Code.entry(Code.join(id, new byte[size])), new byte[20]);
+        }
         unsound("no first", NEXT + 8, COMMON, Code.entry(id));
         unsound("half a first", NEXT + 8, COMMON, Code.entry(Code.join(id, new byte[3])));
         unsound("no range", NEXT + 12, COMMON, Code.entry(Code.join(id, new byte[4])));

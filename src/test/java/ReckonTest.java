@@ -133,7 +133,8 @@ public final class ReckonTest {
 
     private static void twoNumbers() {
         int[][] pairs = {{7, 2}, {-7, 2}, {7, -2}, {-7, -2}, {0x0FF0, 0x3C3C}, {MIN, -1}, {MIN, MAX},
-            {MAX, MAX}, {0, 5}, {65537, 65537}};
+            {MAX, MAX}, {0, 5}, {65537, 65537},
+            {9, 1}, {-9, 1}, {9, -1}};
         for (int[] pair : pairs) {
             int a = pair[0];
             int b = pair[1];
@@ -211,6 +212,13 @@ public final class ReckonTest {
         leaves(new int[] {49, 50, 51, 21, 2}, 1, 3, 2, 1);
         leaves(new int[] {49, 50, 51, 22}, 2, 3, 1);
         leaves(new int[] {52, 49, 50, 51, 23}, 2, 1, 3, 4);
+        leaves(new int[] {49, 50, 51, 23}, 2, 1, 3);
+        leaves(new int[] {49, 50, 22}, 1, 2);
+        leaves(new int[] {49, 50, 20}, 1, 2, 1);
+        leaves(new int[] {49, 18}, 1, 1);
+        leaves(new int[] {49, 40, 0, 0, 50}, 2);
+        leaves(new int[] {47, 0, 0, 50}, 2);
+        leaves(new int[] {150, 50}, 2);
         leaves(new int[] {52, 49, 50, 34}, 3, 4);
         leaves(new int[] {52, 49, 50, 43}, 0, 4);
         leaves(new int[] {52, 49, 31}, -1, 4);

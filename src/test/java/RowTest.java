@@ -28,6 +28,7 @@ public final class RowTest {
         commonRulesAgain();
         rememberedRows();
         eachFrameHasItsCommonEntry();
+        nothingStaysFromCallsBefore();
         Check.finish();
     }
 
@@ -277,5 +278,21 @@ public final class RowTest {
         rule(x, 18, 1, OFFSET, 8, 0);
         rule(x, 18, 5, UNDEFINED, 0, 0);
         rule(x, 18, 6, SAME, 0, 0);
+    }
+
+    private static void nothingStaysFromCallsBefore() {
+        byte[] common = Code.common(1, 1, 6);
+        FrameUnwinder x = Code.load(common,
+            Code.frame(0, 0, 10, 10, 12, 3, 4, 16, 0, 1, 0, 10), Code.frame(0, 10, 10, 10, 11));
+        rule(x, 0, CFA, 1, 4, 3);
+        rule(x, 0, 0, EXPRESSION, 35, 1);
+        rule(x, 10, CFA, 0, 0, 0);
+        rule(x, 10, 0, SAME, 0, 0);
+        rule(x, 0, CFA, 1, 4, 3);
+        Check.same("find(0)", x.find(0), 1);
+        Check.same("find(10)", x.find(10), 2);
+        x.end(common.length);
+        Check.same("find(0) of a cut section", x.find(0), -1);
+        Check.same("find(10) of a cut section", x.find(10), -1);
     }
 }

@@ -29,6 +29,7 @@ public final class UnwindTest {
         callersPlaces();
         chain();
         firstEntryCounts();
+        cfaIsForgotten();
         Check.finish();
     }
 
@@ -320,5 +321,19 @@ public final class UnwindTest {
         x.start(25);
         Check.same("unwind() in the second entry", x.unwind(9), 0);
         Check.same("get(7)", x.get(7), 3);
+    }
+
+    /** CFA of one step is none of the next step's, nor of reckon()'s. */
+    private static void cfaIsForgotten() {
+        FrameUnwinder x = frameWith(12, 7, 2, 22, 7, 1, 156, 0x45, 15, 1, 156);
+        Check.same("unwind()", x.unwind(9), 0);
+        Check.same("get(7)", x.get(7), 72);
+        // The expression of register 7 stands behind 14 bytes of the common entry and 16 of the frame.
+        Check.same("row(0, 7, 1)", x.row(0, 7, 1), 36);
+        Check.same("reckon() of CFA", x.reckon(36, 37, 9), BYTES);
+        x.start(0);
+        Check.same("unwind()", x.unwind(9), 0);
+        x.start(5);
+        stays(BYTES, x, 9, "CFA of the CFA of the step before");
     }
 }
