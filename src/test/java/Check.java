@@ -2,6 +2,7 @@
 final class Check {
     private static int wrong = 0;
     private static int done = 0;
+    private static String heading = "";
 
     private Check() {
     }
@@ -9,8 +10,7 @@ final class Check {
     static void same(String call, long got, long due) {
         done++;
         if (got != due) {
-            wrong++;
-            System.out.println(call + " answered " + got + ", due is " + due);
+            tell(call + " answered " + got + ", due is " + due);
         }
     }
 
@@ -25,8 +25,22 @@ final class Check {
             }
             got = e.getClass().getName();
         }
-        wrong++;
-        System.out.println(call + " threw " + got + ", due is " + due.getName());
+        tell(call + " threw " + got + ", due is " + due.getName());
+    }
+
+    /** The test of one sentence of the document, whose words are told with each wrong answer. */
+    static void sentence(String words, Runnable test) {
+        heading = "\"" + words + "\": ";
+        int before = done;
+        try {
+            test.run();
+        } catch (RuntimeException e) {
+            tell("ended by " + e);
+        }
+        if (done == before) {
+            tell("nothing was compared");
+        }
+        heading = "";
     }
 
     static void finish() {
@@ -34,5 +48,10 @@ final class Check {
         if (wrong != 0) {
             System.exit(1);
         }
+    }
+
+    private static void tell(String text) {
+        wrong++;
+        System.out.println(heading + text);
     }
 }

@@ -25,16 +25,9 @@ public final class FaultTest {
         Check.finish();
     }
 
-    private static void sound(String what, int entries, byte[]... parts) {
-        FrameUnwinder x = Code.load(parts);
-        Check.same("fault() of " + what, x.fault(), -1);
-        Check.same("entries() of " + what, x.entries(), entries);
-    }
-
     private static void unsound(String what, int place, byte[]... parts) {
+        Expect.fault(what, place, parts);
         FrameUnwinder x = Code.load(parts);
-        Check.same("fault() of " + what, x.fault(), place);
-        Check.same("entries() of " + what, x.entries(), -1);
         Check.refused("find() of " + what, IllegalStateException.class, () -> x.find(0));
         Check.refused("row() of " + what, IllegalStateException.class, () -> x.row(0, 0, 0));
         Check.refused("unwind() of " + what, IllegalStateException.class, () -> x.unwind(9));
@@ -46,12 +39,12 @@ public final class FaultTest {
 
     private static void soundSections() {
         Check.same("length of COMMON", COMMON.length, NEXT);
-        sound("nothing", 0);
-        sound("a common entry", 1, COMMON);
-        sound("a frame entry behind its common one", 2, COMMON, Code.frame(0, 0, 0));
-        sound("a frame entry of the second common one", 3,
+        Expect.sound("nothing", 0);
+        Expect.sound("a common entry", 1, COMMON);
+        Expect.sound("a frame entry behind its common one", 2, COMMON, Code.frame(0, 0, 0));
+        Expect.sound("a frame entry of the second common one", 3,
             COMMON, COMMON, Code.frame(NEXT, 0, Integer.MAX_VALUE));
-        sound("a frame entry of the first common one", 4,
+        Expect.sound("a frame entry of the first common one", 4,
             COMMON, Code.frame(0, Integer.MAX_VALUE, Integer.MAX_VALUE), COMMON, Code.frame(0, 1, 2));
     }
 
@@ -106,10 +99,10 @@ public final class FaultTest {
             unsound(size + " numbers and more bytes behind the entry", 8 + size,
                 commonOf(part), Code.of(1, 1, 1, 1, 0, 0, 0, 0));
         }
-        sound("return register 7", 1, commonOf(1, 1, 1, 7));
-        sound("numbers of five bytes", 1, commonOf(1, 0xFF, 0xFF, 0xFF, 0xFF, 0x7F,
+        Expect.sound("return register 7", 1, commonOf(1, 1, 1, 7));
+        Expect.sound("numbers of five bytes", 1, commonOf(1, 0xFF, 0xFF, 0xFF, 0xFF, 0x7F,
             0x80, 0x80, 0x80, 0x80, 0x70, 0x87, 0x80, 0x80, 0x80, 0));
-        sound("a return register with bits above 32", 1, commonOf(1, 1, 1, 0x87, 0x80, 0x80, 0x80, 0x70));
+        Expect.sound("a return register with bits above 32", 1, commonOf(1, 1, 1, 0x87, 0x80, 0x80, 0x80, 0x70));
     }
 
     private static void frameHeads() {
@@ -122,7 +115,7 @@ public final class FaultTest {
         unsound("half a first", NEXT + 8, COMMON, Code.entry(Code.join(id, new byte[3])));
         unsound("no range", NEXT + 12, COMMON, Code.entry(Code.join(id, new byte[4])));
         unsound("half a range", NEXT + 12, COMMON, Code.entry(Code.join(id, new byte[7])));
-        sound("first and range alone", 2, COMMON, Code.entry(Code.join(id, new byte[8])));
+        Expect.sound("first and range alone", 2, COMMON, Code.entry(Code.join(id, new byte[8])));
         unsound("first below 0", NEXT + 8, COMMON, Code.frame(0, -1, -1));
         unsound("the lowest first", NEXT + 8, COMMON, Code.frame(0, Integer.MIN_VALUE, 4));
         unsound("first below 0 without a range", NEXT + 8, COMMON, Code.entry(Code.join(id, Code.u4(-1))));
@@ -134,7 +127,7 @@ public final class FaultTest {
         for (int k = 0; k < 16; k++) {
             sixteen = Code.join(sixteen, COMMON);
         }
-        sound("sixteen entries", 16, sixteen);
+        Expect.sound("sixteen entries", 16, sixteen);
         unsound("seventeen entries", 16 * NEXT, sixteen, COMMON);
         unsound("sixteen entries and a byte", 16 * NEXT, sixteen, new byte[1]);
         byte[] seventeen = Code.join(sixteen, COMMON);
@@ -150,14 +143,14 @@ public final class FaultTest {
     private static final int INSIDE = NEXT + 16;
 
     private static void instructionsThatAre() {
-        sound("every instruction", 2, COMMON, frameOf(
+        Expect.sound("every instruction", 2, COMMON, frameOf(
             0, 1, 9, 0, 0, 0, 2, 255, 3, 255, 255, 4, 255, 255, 255, 255, 5, 7, 1, 6, 7, 7, 7, 8, 7,
             9, 7, 7, 10, 11, 12, 7, 1, 13, 7, 14, 1, 15, 2, 255, 255, 16, 7, 1, 255, 17, 7, 0x7F,
             18, 7, 0x7F, 19, 0x7F, 20, 7, 1, 21, 7, 0x7F, 22, 7, 1, 255, 0x7F, 0x40, 0x87, 1, 0xC7));
-        sound("expressions without bytes", 2, COMMON, frameOf(15, 0, 16, 1, 0, 22, 1, 0));
-        sound("registers of five bytes", 2, COMMON, frameOf(7, 0x87, 0x80, 0x80, 0x80, 0));
-        sound("a register with bits above 32", 2, COMMON, frameOf(7, 0x87, 0x80, 0x80, 0x80, 0x10));
-        sound("a number of five bytes", 2, COMMON, frameOf(14, 0xFF, 0xFF, 0xFF, 0xFF, 0x7F));
+        Expect.sound("expressions without bytes", 2, COMMON, frameOf(15, 0, 16, 1, 0, 22, 1, 0));
+        Expect.sound("registers of five bytes", 2, COMMON, frameOf(7, 0x87, 0x80, 0x80, 0x80, 0));
+        Expect.sound("a register with bits above 32", 2, COMMON, frameOf(7, 0x87, 0x80, 0x80, 0x80, 0x10));
+        Expect.sound("a number of five bytes", 2, COMMON, frameOf(14, 0xFF, 0xFF, 0xFF, 0xFF, 0x7F));
     }
 
     private static void instructionsThatAreNot() {
@@ -173,7 +166,7 @@ public final class FaultTest {
             {18, 1, 1}, {19, 1}, {20, 1, 1}, {21, 1, 1}, {22, 1, 2, 0, 0}, {0x81, 1},
             {5, 1, 0x80, 0}, {6, 0x80, 0}, {21, 1, 0x80, 0}, {0x81, 0x80, 0}};
         for (int[] instruction : whole) {
-            sound("instruction " + instruction[0], 3, COMMON, frameOf(instruction), COMMON);
+            Expect.sound("instruction " + instruction[0], 3, COMMON, frameOf(instruction), COMMON);
             for (int size = 1; size < instruction.length; size++) {
                 int[] part = java.util.Arrays.copyOf(instruction, size);
                 String what = size + " bytes of instruction " + instruction[0];
@@ -209,7 +202,7 @@ public final class FaultTest {
     }
 
     private static void commonInstructions() {
-        sound("every instruction of common entries", 1, Code.common(1, -4, 6,
+        Expect.sound("every instruction of common entries", 1, Code.common(1, -4, 6,
             0, 5, 7, 1, 7, 7, 8, 7, 9, 7, 7, 12, 7, 1, 13, 7, 14, 1, 15, 1, 255, 16, 7, 1, 255,
             17, 7, 1, 18, 7, 1, 19, 1, 20, 7, 1, 21, 7, 1, 22, 7, 1, 255, 0x87, 1));
         for (int operation : new int[] {1, 2, 3, 4, 6, 10, 11, 0x40, 0x41, 0x7F, 0xC0, 0xC7}) {
@@ -221,13 +214,13 @@ public final class FaultTest {
     }
 
     private static void remembering() {
-        sound("four remembered rows", 2, COMMON, frameOf(10, 10, 10, 10));
+        Expect.sound("four remembered rows", 2, COMMON, frameOf(10, 10, 10, 10));
         unsound("five remembered rows", INSIDE + 4, COMMON, frameOf(10, 10, 10, 10, 10));
-        sound("five rows, one taken back", 2, COMMON, frameOf(10, 10, 10, 10, 11, 10, 11, 11, 11, 11));
+        Expect.sound("five rows, one taken back", 2, COMMON, frameOf(10, 10, 10, 10, 11, 10, 11, 11, 11, 11));
         unsound("a row too many taken back", INSIDE, COMMON, frameOf(11));
         unsound("two rows taken back of one", INSIDE + 2, COMMON, frameOf(10, 11, 11));
         byte[] four = frameOf(10, 10, 10, 10);
-        sound("four rows in each entry", 3, COMMON, four, four);
+        Expect.sound("four rows in each entry", 3, COMMON, four, four);
         unsound("a row of another entry taken back", NEXT + 2 * 16 + 4, COMMON, four, frameOf(11));
     }
 

@@ -36,34 +36,6 @@ public final class ReckonTest {
         Check.finish();
     }
 
-    private static String text(byte[] code) {
-        StringBuilder text = new StringBuilder();
-        for (byte b : code) {
-            text.append(' ').append(b & 255);
-        }
-        return text.toString();
-    }
-
-    private static void gives(int due, byte[] code) {
-        FrameUnwinder x = Code.load(code);
-        Check.same("reckon() of" + text(code), x.reckon(0, code.length, 2000), 0);
-        Check.same("value() of" + text(code), x.value(), due);
-    }
-
-    private static void gives(int due, int... code) {
-        gives(due, Code.of(code));
-    }
-
-    private static void fails(int due, byte[] code) {
-        FrameUnwinder x = Code.load(code);
-        Check.same("reckon() of" + text(code), x.reckon(0, code.length, 2000), due);
-        Check.same("value() of" + text(code), x.value(), 0);
-    }
-
-    private static void fails(int due, int... code) {
-        fails(due, Code.of(code));
-    }
-
     private static byte[] number(int n) {
         return new Code().u1(13).number(4, n).bytes();
     }
@@ -73,37 +45,37 @@ public final class ReckonTest {
     }
 
     private static void numbers() {
-        gives(0x84838281, 3, 0x81, 0x82, 0x83, 0x84);
-        gives(0x84838281, 13, 0x81, 0x82, 0x83, 0x84);
-        gives(255, 8, 255);
-        gives(-1, 9, 255);
-        gives(127, 9, 127);
-        gives(-128, 9, 128);
-        gives(0xFFFE, 10, 0xFE, 0xFF);
-        gives(-2, 11, 0xFE, 0xFF);
-        gives(0x7F80, 11, 0x80, 0x7F);
-        gives(127, 16, 127);
-        gives(128, 16, 0x80, 1);
-        gives(-1, 16, 255, 255, 255, 255, 15);
-        gives(-1, 16, 255, 255, 255, 255, 127);
-        gives(0, 16, 128, 128, 128, 128, 0);
-        gives(63, 17, 63);
-        gives(-64, 17, 64);
-        gives(-1, 17, 127);
-        gives(64, 17, 0xC0, 0);
-        gives(-128, 17, 0x80, 0x7F);
-        gives(-1, 17, 255, 255, 255, 127);
-        gives(0x0FFFFFFF, 17, 255, 255, 255, 255, 0x40);
-        gives(MIN, 17, 128, 128, 128, 128, 8);
-        fails(BYTES, 16, 128, 128, 128, 128, 128, 0);
-        fails(BYTES, 17, 255, 255, 255, 255, 255, 127);
-        fails(BYTES, 112, 255, 255, 255, 255, 255, 127);
-        fails(BYTES, 48, 35, 128, 128, 128, 128, 128, 0);
+        Expect.gives(0x84838281, 3, 0x81, 0x82, 0x83, 0x84);
+        Expect.gives(0x84838281, 13, 0x81, 0x82, 0x83, 0x84);
+        Expect.gives(255, 8, 255);
+        Expect.gives(-1, 9, 255);
+        Expect.gives(127, 9, 127);
+        Expect.gives(-128, 9, 128);
+        Expect.gives(0xFFFE, 10, 0xFE, 0xFF);
+        Expect.gives(-2, 11, 0xFE, 0xFF);
+        Expect.gives(0x7F80, 11, 0x80, 0x7F);
+        Expect.gives(127, 16, 127);
+        Expect.gives(128, 16, 0x80, 1);
+        Expect.gives(-1, 16, 255, 255, 255, 255, 15);
+        Expect.gives(-1, 16, 255, 255, 255, 255, 127);
+        Expect.gives(0, 16, 128, 128, 128, 128, 0);
+        Expect.gives(63, 17, 63);
+        Expect.gives(-64, 17, 64);
+        Expect.gives(-1, 17, 127);
+        Expect.gives(64, 17, 0xC0, 0);
+        Expect.gives(-128, 17, 0x80, 0x7F);
+        Expect.gives(-1, 17, 255, 255, 255, 127);
+        Expect.gives(0x0FFFFFFF, 17, 255, 255, 255, 255, 0x40);
+        Expect.gives(MIN, 17, 128, 128, 128, 128, 8);
+        Expect.fails(BYTES, 16, 128, 128, 128, 128, 128, 0);
+        Expect.fails(BYTES, 17, 255, 255, 255, 255, 255, 127);
+        Expect.fails(BYTES, 112, 255, 255, 255, 255, 255, 127);
+        Expect.fails(BYTES, 48, 35, 128, 128, 128, 128, 128, 0);
     }
 
     private static void smallNumbersAndRegisters() {
         for (int n = 0; n < 32; n++) {
-            gives(n, 48 + n);
+            Expect.gives(n, 48 + n);
         }
         FrameUnwinder x = new FrameUnwinder();
         for (int r = 0; r < 8; r++) {
@@ -122,13 +94,13 @@ public final class ReckonTest {
     private static void changesOfTheTop() {
         int[][] due = {{5, 5}, {-5, 5}, {0, 0}, {MIN, MIN}, {MAX, MAX}};
         for (int[] pair : due) {
-            gives(pair[1], Code.join(number(pair[0]), Code.of(25)));
-            gives(-pair[0], Code.join(number(pair[0]), Code.of(31)));
-            gives(~pair[0], Code.join(number(pair[0]), Code.of(32)));
-            gives(pair[0] + 300, Code.join(number(pair[0]), Code.of(35, 0xAC, 2)));
-            gives(pair[0], Code.join(number(pair[0]), Code.of(150)));
+            Expect.gives(pair[1], Code.join(number(pair[0]), Code.of(25)));
+            Expect.gives(-pair[0], Code.join(number(pair[0]), Code.of(31)));
+            Expect.gives(~pair[0], Code.join(number(pair[0]), Code.of(32)));
+            Expect.gives(pair[0] + 300, Code.join(number(pair[0]), Code.of(35, 0xAC, 2)));
+            Expect.gives(pair[0], Code.join(number(pair[0]), Code.of(150)));
         }
-        gives(6, 55, 35, 255, 255, 255, 255, 15);
+        Expect.gives(6, 55, 35, 255, 255, 255, 255, 15);
     }
 
     private static void twoNumbers() {
@@ -138,37 +110,37 @@ public final class ReckonTest {
         for (int[] pair : pairs) {
             int a = pair[0];
             int b = pair[1];
-            gives(a & b, two(26, a, b));
-            gives(a / b, two(27, a, b));
-            gives(a - b, two(28, a, b));
-            gives(a % b, two(29, a, b));
-            gives(a * b, two(30, a, b));
-            gives(a | b, two(33, a, b));
-            gives(a + b, two(34, a, b));
-            gives(a ^ b, two(39, a, b));
+            Expect.gives(a & b, two(26, a, b));
+            Expect.gives(a / b, two(27, a, b));
+            Expect.gives(a - b, two(28, a, b));
+            Expect.gives(a % b, two(29, a, b));
+            Expect.gives(a * b, two(30, a, b));
+            Expect.gives(a | b, two(33, a, b));
+            Expect.gives(a + b, two(34, a, b));
+            Expect.gives(a ^ b, two(39, a, b));
         }
-        gives(-3, two(27, -7, 2));
-        gives(-1, two(29, -7, 2));
-        gives(1, two(29, 7, -2));
-        gives(MIN, two(27, MIN, -1));
-        gives(0, two(29, MIN, -1));
-        fails(DIVISION, two(27, 7, 0));
-        fails(DIVISION, two(29, 7, 0));
-        fails(DIVISION, two(27, 0, 0));
+        Expect.gives(-3, two(27, -7, 2));
+        Expect.gives(-1, two(29, -7, 2));
+        Expect.gives(1, two(29, 7, -2));
+        Expect.gives(MIN, two(27, MIN, -1));
+        Expect.gives(0, two(29, MIN, -1));
+        Expect.fails(DIVISION, two(27, 7, 0));
+        Expect.fails(DIVISION, two(29, 7, 0));
+        Expect.fails(DIVISION, two(27, 0, 0));
     }
 
     private static void shifts() {
         int[] numbers = {1, -1, 0x40000001, MIN, 0};
         for (int a : numbers) {
             for (int b : new int[] {0, 1, 30, 31}) {
-                gives(a << b, two(36, a, b));
-                gives(a >>> b, two(37, a, b));
-                gives(a >> b, two(38, a, b));
+                Expect.gives(a << b, two(36, a, b));
+                Expect.gives(a >>> b, two(37, a, b));
+                Expect.gives(a >> b, two(38, a, b));
             }
             for (int b : new int[] {32, 33, 64, -1, -31, -32, MIN, MAX}) {
-                gives(0, two(36, a, b));
-                gives(0, two(37, a, b));
-                gives(a < 0 ? -1 : 0, two(38, a, b));
+                Expect.gives(0, two(36, a, b));
+                Expect.gives(0, two(37, a, b));
+                Expect.gives(a < 0 ? -1 : 0, two(38, a, b));
             }
         }
     }
@@ -178,12 +150,12 @@ public final class ReckonTest {
         for (int[] pair : pairs) {
             int a = pair[0];
             int b = pair[1];
-            gives(a == b ? 1 : 0, two(41, a, b));
-            gives(a >= b ? 1 : 0, two(42, a, b));
-            gives(a > b ? 1 : 0, two(43, a, b));
-            gives(a <= b ? 1 : 0, two(44, a, b));
-            gives(a < b ? 1 : 0, two(45, a, b));
-            gives(a != b ? 1 : 0, two(46, a, b));
+            Expect.gives(a == b ? 1 : 0, two(41, a, b));
+            Expect.gives(a >= b ? 1 : 0, two(42, a, b));
+            Expect.gives(a > b ? 1 : 0, two(43, a, b));
+            Expect.gives(a <= b ? 1 : 0, two(44, a, b));
+            Expect.gives(a < b ? 1 : 0, two(45, a, b));
+            Expect.gives(a != b ? 1 : 0, two(46, a, b));
         }
     }
 
@@ -191,9 +163,9 @@ public final class ReckonTest {
     private static void leaves(int[] code, int... due) {
         for (int k = 0; k < due.length; k++) {
             byte[] whole = Code.join(Code.of(code), fill(19, k));
-            gives(due[k], whole);
+            Expect.gives(due[k], whole);
         }
-        fails(STACK, Code.join(Code.of(code), fill(19, due.length)));
+        Expect.fails(STACK, Code.join(Code.of(code), fill(19, due.length)));
     }
 
     private static byte[] fill(int b, int count) {
@@ -229,36 +201,36 @@ public final class ReckonTest {
     }
 
     private static void jumps() {
-        gives(1, 49, 47, 1, 0, 50);
-        gives(2, 49, 47, 0, 0, 50);
-        gives(1, 49, 49, 40, 1, 0, 50);
-        gives(2, 49, 48, 40, 1, 0, 50);
-        gives(1, 49, 79, 31, 40, 1, 0, 50);
+        Expect.gives(1, 49, 47, 1, 0, 50);
+        Expect.gives(2, 49, 47, 0, 0, 50);
+        Expect.gives(1, 49, 49, 40, 1, 0, 50);
+        Expect.gives(2, 49, 48, 40, 1, 0, 50);
+        Expect.gives(1, 49, 79, 31, 40, 1, 0, 50);
         // From 5 down to 0 by a jump back to the beginning of the loop.
-        gives(0, 53, 49, 28, 18, 40, 0xFA, 0xFF);
+        Expect.gives(0, 53, 49, 28, 18, 40, 0xFA, 0xFF);
         // Into the middle of an operation: the operand 49 is done as the number 1.
-        gives(1, 47, 1, 0, 8, 49);
+        Expect.gives(1, 47, 1, 0, 8, 49);
         // Back to the very beginning: 1 comes on top until the stack is full.
-        fails(STACK, 49, 47, 0xFC, 0xFF);
+        Expect.fails(STACK, 49, 47, 0xFC, 0xFF);
         // A jump on itself.
-        fails(FUEL, 47, 0xFD, 0xFF);
-        fails(FUEL, 49, 47, 0xFD, 0xFF);
+        Expect.fails(FUEL, 47, 0xFD, 0xFF);
+        Expect.fails(FUEL, 49, 47, 0xFD, 0xFF);
         FrameUnwinder x = Code.load(Code.of(19, 49, 48, 47, 0, 0, 50));
         Check.same("reckon() of a part with a jump to its end", x.reckon(1, 6, 9), 0);
         Check.same("value()", x.value(), 0);
     }
 
     private static void badJumps() {
-        fails(BYTES, 49, 47, 1, 0);
-        fails(BYTES, 49, 47, 0xFB, 0xFF);
-        fails(BYTES, 49, 47, 0, 0x80);
-        fails(BYTES, 49, 47, 0xFF, 0x7F);
-        fails(BYTES, 49, 49, 40, 1, 0);
-        fails(BYTES, 49, 49, 40, 0xFA, 0xFF);
-        fails(BYTES, 47, 1, 0);
+        Expect.fails(BYTES, 49, 47, 1, 0);
+        Expect.fails(BYTES, 49, 47, 0xFB, 0xFF);
+        Expect.fails(BYTES, 49, 47, 0, 0x80);
+        Expect.fails(BYTES, 49, 47, 0xFF, 0x7F);
+        Expect.fails(BYTES, 49, 49, 40, 1, 0);
+        Expect.fails(BYTES, 49, 49, 40, 0xFA, 0xFF);
+        Expect.fails(BYTES, 47, 1, 0);
         // A jump that isn't made needs no place to go to.
-        gives(1, 49, 48, 40, 1, 0);
-        gives(1, 49, 48, 40, 0, 0x80);
+        Expect.gives(1, 49, 48, 40, 1, 0);
+        Expect.gives(1, 49, 48, 40, 0, 0x80);
         FrameUnwinder x = Code.load(Code.of(49, 49, 47, 0xFB, 0xFF, 49, 49, 47, 1, 0, 49));
         Check.same("reckon() of a jump before a part", x.reckon(1, 5, 9), BYTES);
         Check.same("reckon() of a jump beyond a part", x.reckon(6, 10, 9), BYTES);
@@ -333,65 +305,65 @@ public final class ReckonTest {
 
     private static void heights() {
         byte[] sixteen = fill(49, 16);
-        gives(1, sixteen);
+        Expect.gives(1, sixteen);
         int[][] pushing = {{3, 0, 0, 0, 0}, {8, 0}, {9, 0}, {10, 0, 0}, {11, 0, 0}, {13, 0, 0, 0, 0},
             {16, 0}, {17, 0}, {18}, {20}, {21, 0}, {21, 15}, {48}, {79}, {112, 0}, {119, 0}};
         for (int[] operation : pushing) {
-            fails(STACK, Code.join(sixteen, Code.of(operation)));
+            Expect.fails(STACK, Code.join(sixteen, Code.of(operation)));
             FrameUnwinder x = Code.load(Code.join(sixteen, Code.of(19), Code.of(operation)));
             int size = 17 + operation.length;
             Check.same("reckon() of operation " + operation[0] + " on fifteen numbers",
                 x.reckon(0, size, 99), operation.length == 2 && operation[1] == 15 ? STACK : 0);
         }
-        gives(2, Code.join(sixteen, Code.of(34)));
-        gives(1, Code.join(sixteen, Code.of(23, 22, 150)));
-        gives(5, Code.join(Code.of(53), fill(49, 14), Code.of(21, 14)));
-        fails(STACK, Code.join(Code.of(53), fill(49, 14), Code.of(21, 15)));
-        fails(STACK, Code.join(Code.of(53), fill(49, 14), Code.of(21, 255)));
+        Expect.gives(2, Code.join(sixteen, Code.of(34)));
+        Expect.gives(1, Code.join(sixteen, Code.of(23, 22, 150)));
+        Expect.gives(5, Code.join(Code.of(53), fill(49, 14), Code.of(21, 14)));
+        Expect.fails(STACK, Code.join(Code.of(53), fill(49, 14), Code.of(21, 15)));
+        Expect.fails(STACK, Code.join(Code.of(53), fill(49, 14), Code.of(21, 255)));
     }
 
     private static void tooFew() {
-        fails(STACK);
-        fails(STACK, 150);
-        fails(STACK, 49, 19);
+        Expect.fails(STACK);
+        Expect.fails(STACK, 150);
+        Expect.fails(STACK, 49, 19);
         for (int one : new int[] {6, 18, 19, 25, 31, 32}) {
-            fails(STACK, one);
+            Expect.fails(STACK, one);
         }
-        fails(STACK, 35, 1);
-        fails(STACK, 40, 0, 0);
-        fails(STACK, 21, 0);
-        fails(STACK, 49, 21, 1);
+        Expect.fails(STACK, 35, 1);
+        Expect.fails(STACK, 40, 0, 0);
+        Expect.fails(STACK, 21, 0);
+        Expect.fails(STACK, 49, 21, 1);
         int[] pairs = {20, 22, 26, 27, 28, 29, 30, 33, 34, 36, 37, 38, 39, 41, 42, 43, 44, 45, 46};
         for (int pair : pairs) {
-            fails(STACK, pair);
-            fails(STACK, 49, pair);
+            Expect.fails(STACK, pair);
+            Expect.fails(STACK, 49, pair);
         }
-        fails(STACK, 23);
-        fails(STACK, 49, 23);
-        fails(STACK, 49, 50, 23);
+        Expect.fails(STACK, 23);
+        Expect.fails(STACK, 49, 23);
+        Expect.fails(STACK, 49, 50, 23);
     }
 
     private static void whatFailsFirst() {
         // Beyond the end, on an empty stack and on a full one.
-        fails(BYTES, 35);
-        fails(BYTES, 40, 0);
-        fails(BYTES, 21);
-        fails(BYTES, Code.join(fill(49, 16), Code.of(8)));
-        fails(BYTES, Code.join(fill(49, 16), Code.of(47, 1, 0)));
+        Expect.fails(BYTES, 35);
+        Expect.fails(BYTES, 40, 0);
+        Expect.fails(BYTES, 21);
+        Expect.fails(BYTES, Code.join(fill(49, 16), Code.of(8)));
+        Expect.fails(BYTES, Code.join(fill(49, 16), Code.of(47, 1, 0)));
         // Division by 0 with one number alone.
-        fails(STACK, 48, 27);
-        fails(STACK, 48, 29);
+        Expect.fails(STACK, 48, 27);
+        Expect.fails(STACK, 48, 29);
         // CFA where there is none, on a full stack.
-        fails(BYTES, Code.join(fill(49, 16), Code.of(156)));
-        fails(BYTES, 156);
+        Expect.fails(BYTES, Code.join(fill(49, 16), Code.of(156)));
+        Expect.fails(BYTES, 156);
         // Without fuel no operation is looked at.
         FrameUnwinder x = Code.load(Code.of(255));
         Check.same("reckon() of no operation without fuel", x.reckon(0, 1, 0), FUEL);
         Check.same("reckon() of no operation with fuel", x.reckon(0, 1, 1), BYTES);
         // What is behind the failing operation doesn't count.
-        fails(STACK, 34, 255);
-        fails(READ, 49, 6, 255);
-        fails(DIVISION, 49, 48, 27, 255);
+        Expect.fails(STACK, 34, 255);
+        Expect.fails(READ, 49, 6, 255);
+        Expect.fails(DIVISION, 49, 48, 27, 255);
     }
 
     private static void unknownRegisters() {

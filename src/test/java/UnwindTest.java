@@ -53,23 +53,6 @@ public final class UnwindTest {
         }
     }
 
-    /** Compares all that get() tells. */
-    private static void frame(String what, FrameUnwinder x, int... due) {
-        for (int r = 0; r < due.length; r++) {
-            Check.same("get(" + r + ") " + what, x.get(r), due[r]);
-        }
-    }
-
-    /** The step is refused, or it is the base, and nothing changes. */
-    private static void stays(int due, FrameUnwinder x, int fuel, String what) {
-        int[] before = new int[11];
-        for (int r = 0; r < 11; r++) {
-            before[r] = x.get(r);
-        }
-        Check.same("unwind(" + fuel + ") of " + what, x.unwind(fuel), due);
-        frame("after unwind(" + fuel + ") of " + what, x, before);
-    }
-
     private static void refusals() {
         FrameUnwinder x = frameWith(12, 7, 0);
         for (int fuel : new int[] {-1, 2001, Integer.MIN_VALUE, Integer.MAX_VALUE}) {
@@ -79,7 +62,7 @@ public final class UnwindTest {
         Check.refused("unwind() unsound", IllegalStateException.class, () -> x.unwind(9));
         Check.refused("unwind(-1) unsound", IllegalStateException.class, () -> x.unwind(-1));
         x.spoil(8, 1);
-        frame("after refusals", x, 0, 10, 20, 30, 40, 50, 60, 70, 0, 255, 0);
+        Expect.frame("after refusals", x, 0, 10, 20, 30, 40, 50, 60, 70, 0, 255, 0);
         Check.same("unwind(2000)", x.unwind(2000), 0);
         x.start(1000);
         Check.refused("unwind(-1) of the base", IllegalArgumentException.class, () -> x.unwind(-1));
@@ -88,31 +71,31 @@ public final class UnwindTest {
     private static void bases() {
         FrameUnwinder x = frameWith(12, 7, 0, 0x45, 7, 6, 0x45, 5, 6, 1, 0x45, 7, 6, 15, 0);
         x.start(100);
-        stays(BASE, x, 9, "a place without an entry");
+        Expect.stays(BASE, x, 9, "a place without an entry");
         x.start(-1);
-        stays(BASE, x, 9, "the highest place");
+        Expect.stays(BASE, x, 9, "the highest place");
         x.start(5);
-        stays(BASE, x, 9, "an UNDEFINED return register");
+        Expect.stays(BASE, x, 9, "an UNDEFINED return register");
         x.start(15);
-        stays(BASE, x, 9, "an UNDEFINED return register and a bad CFA");
+        Expect.stays(BASE, x, 9, "an UNDEFINED return register and a bad CFA");
         x.start(4);
         Check.same("unwind() ahead of it", x.unwind(9), 0);
         FrameUnwinder plain = Code.load(Code.common(1, 4, 6, 12, 7, 0), Code.frame(0, 0, 100));
-        stays(BASE, plain, 9, "the return register's rule at first");
+        Expect.stays(BASE, plain, 9, "the return register's rule at first");
         FrameUnwinder seven = Code.load(Code.common(1, 4, 7, 12, 7, 0), Code.frame(0, 0, 100));
-        stays(BASE, seven, 9, "return register 7's rule at first");
+        Expect.stays(BASE, seven, 9, "return register 7's rule at first");
         FrameUnwinder untold = Code.load(Code.common(1, 4, 6), Code.frame(0, 0, 100));
-        stays(BASE, untold, 9, "neither a return register nor CFA");
+        Expect.stays(BASE, untold, 9, "neither a return register nor CFA");
     }
 
     private static void cfa() {
-        stays(NOT_TOLD, frameWith(), 9, "CFA that isn't told");
+        Expect.stays(NOT_TOLD, frameWith(), 9, "CFA that isn't told");
         FrameUnwinder x = frameWith(12, 3, 5);
         Check.same("unwind()", x.unwind(0), 0);
-        frame("of a register and a number", x, 0, 10, 20, 30, 40, 50, 60, 35, 60, 255, 1);
+        Expect.frame("of a register and a number", x, 0, 10, 20, 30, 40, 50, 60, 35, 60, 255, 1);
         FrameUnwinder below = frameWith(18, 3, 0x7F);
         Check.same("unwind()", below.unwind(0), 0);
-        frame("of a register and a number below 0", below, 0, 10, 20, 30, 40, 50, 60, 26, 60, 255, 1);
+        Expect.frame("of a register and a number below 0", below, 0, 10, 20, 30, 40, 50, 60, 26, 60, 255, 1);
         FrameUnwinder wraps = frameWith(12, 3, 1);
         wraps.register(3, Integer.MAX_VALUE);
         Check.same("unwind()", wraps.unwind(0), 0);
@@ -122,68 +105,68 @@ public final class UnwindTest {
     private static void cfaExpressions() {
         FrameUnwinder x = frameWith(15, 4, 114, 4, 35, 8);
         Check.same("unwind(2)", x.unwind(2), 0);
-        frame("of an expression", x, 0, 10, 20, 30, 40, 50, 60, 32, 60, 255, 1);
-        stays(FUEL, frameWith(15, 4, 114, 4, 35, 8), 1, "CFA with too little fuel");
-        stays(BYTES, frameWith(15, 1, 255), 9, "CFA with no such operation");
-        stays(BYTES, frameWith(15, 1, 8, 0, 0), 9, "CFA with half an operation");
-        stays(BYTES, frameWith(15, 1, 156), 9, "CFA of CFA");
-        stays(STACK, frameWith(15, 0), 0, "CFA of no bytes");
-        stays(STACK, frameWith(15, 1, 18), 9, "CFA that has nothing on the stack");
-        stays(READ, frameWith(15, 2, 49, 6), 9, "CFA of a bad address");
-        stays(DIVISION, frameWith(15, 3, 49, 48, 27), 9, "CFA divided by 0");
-        stays(BYTES, frameWith(15, 4, 49, 47, 1, 0, 0, 0), 9, "CFA with a jump beyond its end");
-        stays(BYTES, frameWith(0, 15, 4, 49, 47, 0xFB, 0xFF), 9, "CFA with a jump before its beginning");
+        Expect.frame("of an expression", x, 0, 10, 20, 30, 40, 50, 60, 32, 60, 255, 1);
+        Expect.stays(FUEL, frameWith(15, 4, 114, 4, 35, 8), 1, "CFA with too little fuel");
+        Expect.stays(BYTES, frameWith(15, 1, 255), 9, "CFA with no such operation");
+        Expect.stays(BYTES, frameWith(15, 1, 8, 0, 0), 9, "CFA with half an operation");
+        Expect.stays(BYTES, frameWith(15, 1, 156), 9, "CFA of CFA");
+        Expect.stays(STACK, frameWith(15, 0), 0, "CFA of no bytes");
+        Expect.stays(STACK, frameWith(15, 1, 18), 9, "CFA that has nothing on the stack");
+        Expect.stays(READ, frameWith(15, 2, 49, 6), 9, "CFA of a bad address");
+        Expect.stays(DIVISION, frameWith(15, 3, 49, 48, 27), 9, "CFA divided by 0");
+        Expect.stays(BYTES, frameWith(15, 4, 49, 47, 1, 0, 0, 0), 9, "CFA with a jump beyond its end");
+        Expect.stays(BYTES, frameWith(0, 15, 4, 49, 47, 0xFB, 0xFF), 9, "CFA with a jump before its beginning");
     }
 
     private static void everyRule() {
         FrameUnwinder x = frameWith(12, 7, 2, 7, 0, 5, 1, 2, 17, 2, 0x7F, 9, 3, 1, 22, 4, 3, 35, 3, 150,
             16, 5, 2, 35, 12, 20, 7, 1);
         Check.same("unwind()", x.unwind(9), 0);
-        frame("of every rule", x, 0, 800, 680, 10, 75, 840, 60, 76, 60, 254, 1);
+        Expect.frame("of every rule", x, 0, 800, 680, 10, 75, 840, 60, 76, 60, 254, 1);
     }
 
     private static void rulesUseTheFrameBefore() {
         FrameUnwinder x = frameWith(12, 7, 2, 9, 0, 1, 9, 1, 0, 9, 2, 7, 22, 3, 2, 112, 0, 22, 4, 2, 119, 0,
             22, 5, 2, 115, 1);
         Check.same("unwind()", x.unwind(9), 0);
-        frame("of rules by other registers", x, 10, 0, 70, 0, 70, 31, 60, 72, 60, 255, 1);
+        Expect.frame("of rules by other registers", x, 10, 0, 70, 0, 70, 31, 60, 72, 60, 255, 1);
         FrameUnwinder self = frameWith(12, 7, 2, 9, 1, 1);
         Check.same("unwind()", self.unwind(9), 0);
         Check.same("get(1)", self.get(1), 10);
     }
 
     private static void unreadableWords() {
-        stays(READ, frameWith(12, 7, 1, 5, 0, 0), 9, "a word at 71");
-        stays(READ, frameWith(12, 7, 2, 17, 0, 0x6D), 9, "a word at -4");
+        Expect.stays(READ, frameWith(12, 7, 1, 5, 0, 0), 9, "a word at 71");
+        Expect.stays(READ, frameWith(12, 7, 2, 17, 0, 0x6D), 9, "a word at -4");
         FrameUnwinder last = frameWith(12, 0, 0, 5, 0, 0xFF, 1);
         last.word(1020, -8);
         Check.same("unwind() with the last word", last.unwind(9), 0);
         Check.same("get(0)", last.get(0), -8);
-        stays(READ, frameWith(12, 0, 0, 5, 0, 0x80, 2), 9, "a word at 1024");
+        Expect.stays(READ, frameWith(12, 0, 0, 5, 0, 0x80, 2), 9, "a word at 1024");
         FrameUnwinder first = frameWith(12, 7, 2, 17, 0, 0x6E);
         first.word(0, -9);
         Check.same("unwind() with the first word", first.unwind(9), 0);
         Check.same("get(0)", first.get(0), -9);
-        stays(READ, frameWith(12, 7, 0, 16, 0, 0), 9, "an EXPRESSION of 70");
-        stays(READ, frameWith(12, 7, 2, 16, 0, 3, 10, 0, 4), 9, "an EXPRESSION of 1024");
+        Expect.stays(READ, frameWith(12, 7, 0, 16, 0, 0), 9, "an EXPRESSION of 70");
+        Expect.stays(READ, frameWith(12, 7, 2, 16, 0, 3, 10, 0, 4), 9, "an EXPRESSION of 1024");
     }
 
     private static void unknownRegisters() {
         FrameUnwinder x = frameWith(12, 7, 0, 7, 0, 7, 3, 0x45, 9, 1, 3, 0x45, 12, 3, 0, 0x45, 15, 2, 115, 0,
             0x45, 12, 7, 0, 22, 2, 2, 112, 0, 0x45, 6, 2, 9, 6, 0);
         Check.same("unwind()", x.unwind(9), 0);
-        frame("with registers lost", x, 0, 10, 20, 0, 40, 50, 60, 70, 60, 246, 1);
+        Expect.frame("with registers lost", x, 0, 10, 20, 0, 40, 50, 60, 70, 60, 246, 1);
         x.start(5);
         Check.same("unwind() with REGISTER unknown", x.unwind(9), 0);
-        frame("with REGISTER unknown", x, 0, 0, 20, 0, 40, 50, 60, 70, 60, 244, 1);
+        Expect.frame("with REGISTER unknown", x, 0, 0, 20, 0, 40, 50, 60, 70, 60, 244, 1);
         x.start(10);
-        stays(READ, x, 9, "CFA's unknown register");
+        Expect.stays(READ, x, 9, "CFA's unknown register");
         x.start(15);
-        stays(READ, x, 9, "CFA's expression with an unknown register");
+        Expect.stays(READ, x, 9, "CFA's expression with an unknown register");
         x.start(20);
-        stays(READ, x, 9, "a rule's expression with an unknown register");
+        Expect.stays(READ, x, 9, "a rule's expression with an unknown register");
         x.start(25);
-        stays(READ, x, 9, "an unknown return register by REGISTER");
+        Expect.stays(READ, x, 9, "an unknown return register by REGISTER");
         x.start(0);
         x.register(0, 5);
         x.register(3, 6);
@@ -203,7 +186,7 @@ public final class UnwindTest {
         Check.same("unwind()", x.unwind(9), 0);
         Check.same("get(8)", x.get(8), 12);
         Check.same("get(9)", x.get(9), 191);
-        stays(READ, x, 9, "an unknown return register by SAME");
+        Expect.stays(READ, x, 9, "an unknown return register by SAME");
         x.register(6, 99);
         Check.same("unwind() with it known again", x.unwind(9), 0);
         Check.same("get(8)", x.get(8), 99);
@@ -213,44 +196,44 @@ public final class UnwindTest {
     private static void expressions() {
         FrameUnwinder x = frameWith(12, 7, 2, 22, 0, 0, 16, 1, 0, 22, 2, 2, 156, 34, 16, 3, 2, 156, 18,
             22, 4, 2, 22, 56, 22, 5, 4, 19, 156, 156, 28);
-        stays(STACK, x, 9, "an expression that needs two numbers");
+        Expect.stays(STACK, x, 9, "an expression that needs two numbers");
         FrameUnwinder y = frameWith(12, 7, 2, 22, 0, 0, 16, 1, 0, 22, 2, 2, 156, 34, 16, 3, 2, 156, 18,
             22, 4, 1, 56, 22, 5, 4, 19, 156, 156, 28);
         Check.same("unwind()", y.unwind(4), 0);
-        frame("of expressions", y, 72, 720, 144, 720, 8, 0, 60, 72, 60, 255, 1);
+        Expect.frame("of expressions", y, 72, 720, 144, 720, 8, 0, 60, 72, 60, 255, 1);
         int[] fifteen = {12, 7, 2, 22, 0, 15, 49, 49, 49, 49, 49, 49, 49, 49, 49, 49, 49, 49, 49, 49, 49};
         Check.same("unwind() with sixteen numbers", frameWith(fifteen).unwind(99), 0);
         int[] sixteen = {12, 7, 2, 22, 0, 16, 49, 49, 49, 49, 49, 49, 49, 49, 49, 49, 49, 49, 49, 49, 49, 49};
-        stays(STACK, frameWith(sixteen), 99, "CFA and sixteen numbers");
+        Expect.stays(STACK, frameWith(sixteen), 99, "CFA and sixteen numbers");
     }
 
     private static void expressionsThatFail() {
         for (int rule : new int[] {16, 22}) {
-            stays(FUEL, frameWith(12, 7, 2, rule, 0, 1, 150), 0, "no fuel by " + rule);
-            stays(BYTES, frameWith(12, 7, 2, rule, 0, 1, 255), 9, "no such operation by " + rule);
-            stays(STACK, frameWith(12, 7, 2, rule, 0, 1, 19), 9, "an empty stack by " + rule);
-            stays(READ, frameWith(12, 7, 2, rule, 0, 2, 49, 6), 9, "a bad address by " + rule);
-            stays(DIVISION, frameWith(12, 7, 2, rule, 0, 2, 48, 29), 9, "a division by " + rule);
+            Expect.stays(FUEL, frameWith(12, 7, 2, rule, 0, 1, 150), 0, "no fuel by " + rule);
+            Expect.stays(BYTES, frameWith(12, 7, 2, rule, 0, 1, 255), 9, "no such operation by " + rule);
+            Expect.stays(STACK, frameWith(12, 7, 2, rule, 0, 1, 19), 9, "an empty stack by " + rule);
+            Expect.stays(READ, frameWith(12, 7, 2, rule, 0, 2, 49, 6), 9, "a bad address by " + rule);
+            Expect.stays(DIVISION, frameWith(12, 7, 2, rule, 0, 2, 48, 29), 9, "a division by " + rule);
         }
     }
 
     private static void fuelOfEachExpression() {
         int[] three = {15, 3, 55, 49, 34, 22, 0, 3, 150, 150, 150, 22, 1, 3, 150, 150, 150};
         Check.same("unwind(3) of three expressions", frameWith(three).unwind(3), 0);
-        stays(FUEL, frameWith(three), 2, "three expressions");
+        Expect.stays(FUEL, frameWith(three), 2, "three expressions");
         int[] loop = {12, 7, 2, 22, 0, 3, 47, 0xFD, 0xFF};
-        stays(FUEL, frameWith(loop), 2000, "a loop");
+        Expect.stays(FUEL, frameWith(loop), 2000, "a loop");
     }
 
     private static void whatFailsFirst() {
-        stays(READ, frameWith(12, 7, 1, 5, 0, 0, 22, 1, 1, 255), 9, "register 0 ahead of 1");
-        stays(BYTES, frameWith(12, 7, 1, 5, 1, 0, 22, 0, 1, 255), 9, "register 0 ahead of 1 again");
-        stays(NOT_TOLD, frameWith(22, 0, 1, 255), 9, "CFA ahead of registers");
-        stays(DIVISION, frameWith(15, 3, 48, 48, 27, 22, 0, 1, 255), 9, "CFA's failure ahead of registers'");
+        Expect.stays(READ, frameWith(12, 7, 1, 5, 0, 0, 22, 1, 1, 255), 9, "register 0 ahead of 1");
+        Expect.stays(BYTES, frameWith(12, 7, 1, 5, 1, 0, 22, 0, 1, 255), 9, "register 0 ahead of 1 again");
+        Expect.stays(NOT_TOLD, frameWith(22, 0, 1, 255), 9, "CFA ahead of registers");
+        Expect.stays(DIVISION, frameWith(15, 3, 48, 48, 27, 22, 0, 1, 255), 9, "CFA's failure ahead of registers'");
         FrameUnwinder x = frameWith(12, 7, 2, 7, 0, 0x45, 9, 6, 0, 22, 7, 1, 255);
         Check.same("unwind()", x.unwind(9), 0);
         x.start(5);
-        stays(BYTES, x, 9, "register 7 ahead of the return register that isn't known");
+        Expect.stays(BYTES, x, 9, "register 7 ahead of the return register that isn't known");
     }
 
     private static void returnRegisters() {
@@ -280,7 +263,7 @@ public final class UnwindTest {
             x.register(6, pc);
             x.start(10);
             Check.same("unwind() to " + pc, x.unwind(9), 0);
-            stays(BASE, x, 9, "a caller at " + pc);
+            Expect.stays(BASE, x, 9, "a caller at " + pc);
         }
         for (int[] pair : new int[][] {{10, 1}, {14, 1}, {15, 2}, {19, 2}, {20, 3}, {29, 3}}) {
             x.register(7, 100);
@@ -289,9 +272,9 @@ public final class UnwindTest {
             Check.same("get(7) of a first frame at " + pair[0], x.get(7), 100 + pair[1]);
         }
         x.start(9);
-        stays(BASE, x, 9, "a first frame at 9");
+        Expect.stays(BASE, x, 9, "a first frame at 9");
         x.start(30);
-        stays(BASE, x, 9, "a first frame at 30");
+        Expect.stays(BASE, x, 9, "a first frame at 30");
     }
 
     private static void chain() {
@@ -309,7 +292,7 @@ public final class UnwindTest {
             Check.same("get(8)", x.get(8), k == 19 ? 7 : 101 + k);
             Check.same("get(10)", x.get(10), k + 1);
         }
-        stays(BASE, x, 0, "the last frame");
+        Expect.stays(BASE, x, 0, "the last frame");
     }
 
     private static void firstEntryCounts() {
@@ -334,6 +317,6 @@ public final class UnwindTest {
         x.start(0);
         Check.same("unwind()", x.unwind(9), 0);
         x.start(5);
-        stays(BYTES, x, 9, "CFA of the CFA of the step before");
+        Expect.stays(BYTES, x, 9, "CFA of the CFA of the step before");
     }
 }
