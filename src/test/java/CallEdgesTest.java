@@ -48,6 +48,9 @@ public final class CallEdgesTest {
     }
 
     private static void program() {
+        Check.sentence("A program has REGISTERS 0 .. 7, each known or not", CallEdgesTest::eightRegisters);
+        Check.sentence("a MEMORY of 256 words at the addresses 0, 4, .. 1020", CallEdgesTest::allWords);
+        Check.sentence("other addresses can't be read.", CallEdgesTest::otherAddresses);
         Check.sentence("A word of memory becomes v.", CallEdgesTest::words);
         Check.sentence("IndexOutOfBoundsException if there is no such address.", CallEdgesTest::noSuchAddress);
         Check.sentence("A register becomes v, and known.", CallEdgesTest::registers);
@@ -294,6 +297,55 @@ public final class CallEdgesTest {
         Check.same("entries() of a byte", Code.load(new byte[1]).entries(), -1);
     }
 
+    private static void eightRegisters() {
+        FrameUnwinder x = losing();
+        for (int r = 0; r < 8; r++) {
+            x.register(r, 40 + r);
+        }
+        Expect.frame("of eight registers", x, 40, 41, 42, 43, 44, 45, 46, 47, 0, 255, 0);
+        x.start(10);
+        Check.same("unwind()", x.unwind(0), 0);
+        Expect.frame("of six registers that are known", x, 0, 0, 42, 43, 44, 45, 46, 47, 46, 252, 1);
+        Check.refused("register(8, 0)", IndexOutOfBoundsException.class, () -> x.register(8, 0));
+        Check.refused("register(-1, 0)", IndexOutOfBoundsException.class, () -> x.register(-1, 0));
+    }
+
+    private static void allWords() {
+        FrameUnwinder x = new FrameUnwinder();
+        int low = 0;
+        int high = 0;
+        for (int address = 0; address < 512; address += 4) {
+            x.word(address, 3 * address + 1);
+            x.word(512 + address, 5 * address + 2);
+            low = 31 * low + 3 * address + 1;
+            high = 31 * high + 5 * address + 2;
+        }
+        Check.same("the words up to 508", words(x, 0, 512), low);
+        Check.same("the words from 512 on", words(x, 512, 1024), high);
+    }
+
+    /** By an operation, by OFFSET and by EXPRESSION. */
+    private static void otherAddresses() {
+        byte[] common = Code.common(1, 1, 6, 12, 7, 0, 8, 6);
+        FrameUnwinder x = Code.load(common, Code.frame(0, 0, 1, 5, 0, 0), Code.frame(0, 1, 1, 16, 0, 0),
+            Code.of(119, 0, 6));
+        int operation = common.length + 38;
+        int[][] due = {{0, 0}, {4, 0}, {1016, 0}, {1020, 0}, {-4, 4}, {-1, 4}, {1, 4}, {2, 4}, {3, 4}, {1019, 4},
+            {1021, 4}, {1022, 4}, {1023, 4}, {1024, 4}, {MIN, 4}, {MAX, 4}};
+        for (int[] pair : due) {
+            x.register(7, pair[0]);
+            Check.same("reckon() of the word at " + pair[0], x.reckon(operation, operation + 3, 9), pair[1]);
+        }
+        x.end(operation);
+        for (int[] pair : due) {
+            for (int pc = 0; pc < 2; pc++) {
+                x.start(pc);
+                x.register(7, pair[0]);
+                Check.same("unwind() at " + pc + " with the word at " + pair[0], x.unwind(0), pair[1]);
+            }
+        }
+    }
+
     private static void words() {
         FrameUnwinder x = Code.load(Code.of(112, 0, 6));
         for (int address : new int[] {0, 4, 508, 512, 1016, 1020}) {
@@ -312,7 +364,8 @@ public final class CallEdgesTest {
 
     private static void noSuchAddress() {
         FrameUnwinder x = new FrameUnwinder();
-        for (int address : new int[] {-1, -2, -3, -4, 1, 2, 3, 1018, 1021, 1023, 1024, 1028, MIN, MIN + 4, MAX, MAX - 3}) {
+        int[] none = {-1, -2, -3, -4, 1, 2, 3, 1018, 1021, 1023, 1024, 1028, MIN, MIN + 4, MAX, MAX - 3};
+        for (int address : none) {
             Check.refused("word(" + address + ", 1)", IndexOutOfBoundsException.class, () -> x.word(address, 1));
         }
         Check.same("the words up to 508", words(x, 0, 512), 0);
@@ -413,7 +466,8 @@ public final class CallEdgesTest {
     private static void knownBits() {
         for (int r = 0; r < 8; r++) {
             int back = r == 6 ? 5 : 6;
-            FrameUnwinder x = Code.load(Code.common(1, 1, back, 12, r == 7 ? 0 : 7, 0, 8, back, 7, r), Code.frame(0, 0, 1));
+            byte[] common = Code.common(1, 1, back, 12, r == 7 ? 0 : 7, 0, 8, back, 7, r);
+            FrameUnwinder x = Code.load(common, Code.frame(0, 0, 1));
             Check.same("get(9)", x.get(9), 255);
             Check.same("unwind()", x.unwind(0), 0);
             Check.same("get(9) with register " + r + " lost", x.get(9), 255 - (1 << r));

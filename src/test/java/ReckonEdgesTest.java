@@ -84,6 +84,7 @@ public final class ReckonEdgesTest {
     private static void calls() {
         Check.sentence("Reckons the bytes of the section from one place up to another one as an expression",
             ReckonEdgesTest::fromOnePlaceToAnother);
+        Check.sentence("as an expression, without CFA", ReckonEdgesTest::withoutCfa);
         Check.sentence("0 if it doesn't fail, else its number.", ReckonEdgesTest::answers);
         Check.sentence("IllegalArgumentException if there are no such places (to is below from, too)",
             ReckonEdgesTest::noSuchPlaces);
@@ -261,6 +262,7 @@ public final class ReckonEdgesTest {
         two(-1, 27, MIN, MAX);
         two(0, 27, MAX, MIN);
         two(0, 27, 0, -9);
+        two(MIN, 27, MIN, 1);
     }
 
     private static void remainder() {
@@ -319,6 +321,7 @@ public final class ReckonEdgesTest {
     }
 
     private static void jumpsUnlessZero() {
+        leaves(new int[] {49, 40, 0, 0, 50}, 2);
         leaves(new int[] {52, 49, 40, 1, 0, 50}, 4);
         leaves(new int[] {52, 48, 40, 1, 0, 50}, 2, 4);
         Expect.gives(4, Code.join(Code.of(52), number(MIN), Code.of(40, 1, 0, 50)));
@@ -478,7 +481,13 @@ public final class ReckonEdgesTest {
     private static void noCfa() {
         Expect.fails(BYTES, 156);
         Expect.fails(BYTES, 49, 156);
-        // Nor is there one after a step that had one.
+        Expect.fails(BYTES, Code.join(SIXTEEN, Code.of(156)));
+    }
+
+    /** Nor is it on the stack, nor is that of an unwound frame still there. */
+    private static void withoutCfa() {
+        Expect.fails(STACK, 18);
+        Expect.fails(BYTES, 156);
         FrameUnwinder x = Code.load(Code.common(1, 1, 6, 12, 7, 0, 8, 6, 22, 0, 1, 156), Code.frame(0, 0, 9));
         Check.same("unwind()", x.unwind(9), 0);
         Check.same("reckon() of CFA after it", x.reckon(20, 21, 9), BYTES);
@@ -492,7 +501,8 @@ public final class ReckonEdgesTest {
             byte[] fits = Code.join(FIFTEEN, Code.of(operation));
             Check.same("reckon() of operation " + operation[0] + " on fifteen", answer(fits, 99), 0);
         }
-        int[] others = {22, 23, 25, 31, 32, 26, 27, 28, 29, 30, 33, 34, 36, 37, 38, 39, 41, 42, 43, 44, 45, 46, 19, 150};
+        int[] others = {19, 22, 23, 25, 26, 27, 28, 29, 30, 31, 32, 33, 34, 36, 37, 38, 39, 41, 42, 43, 44, 45, 46,
+            150};
         for (int operation : others) {
             byte[] fits = Code.join(SIXTEEN, Code.of(operation));
             Check.same("reckon() of operation " + operation + " on sixteen", answer(fits, 99), 0);
@@ -500,9 +510,9 @@ public final class ReckonEdgesTest {
     }
 
     private static void tooFew() {
-        int[][] needs = {{1, 6}, {1, 18}, {2, 19}, {2, 20}, {1, 21, 0}, {2, 21, 1}, {2, 22}, {3, 23}, {1, 25}, {1, 31},
-            {1, 32}, {1, 35, 0}, {2, 40, 0, 0}, {2, 26}, {2, 27}, {2, 28}, {2, 29}, {2, 30}, {2, 33}, {2, 34}, {2, 36},
-            {2, 37}, {2, 38}, {2, 39}, {2, 41}, {2, 42}, {2, 43}, {2, 44}, {2, 45}, {2, 46}};
+        int[][] needs = {{1, 6}, {1, 18}, {1, 19, 50}, {2, 20}, {1, 21, 0}, {2, 21, 1}, {2, 22}, {3, 23}, {1, 25},
+            {1, 31}, {1, 32}, {1, 35, 0}, {1, 40, 0, 0, 50}, {2, 26}, {2, 27}, {2, 28}, {2, 29}, {2, 30}, {2, 33},
+            {2, 34}, {2, 36}, {2, 37}, {2, 38}, {2, 39}, {2, 41}, {2, 42}, {2, 43}, {2, 44}, {2, 45}, {2, 46}};
         for (int[] need : needs) {
             byte[] operation = Code.of(Arrays.copyOfRange(need, 1, need.length));
             byte[] enough = Code.join(fill(52, need[0]), operation);

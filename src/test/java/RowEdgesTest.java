@@ -41,7 +41,8 @@ public final class RowEdgesTest {
     }
 
     private static void rulesOfInstructions() {
-        Check.sentence("h = 2: register (low six bits) OFFSET, ULEB times the data factor", RowEdgesTest::shortOffset);
+        Check.sentence("h = 2: register (low six bits) OFFSET, ULEB times the data factor",
+            RowEdgesTest::shortOffset);
         Check.sentence("h = 3: register (low six bits) gets the rule of the common entry again.",
             RowEdgesTest::shortAgain);
         Check.sentence("5 register, ULEB: OFFSET, times the data factor.", RowEdgesTest::offset);
@@ -65,7 +66,8 @@ public final class RowEdgesTest {
     }
 
     private static void rules() {
-        Check.sentence("RULES at first: SAME for all registers, but VALUE 0 for register 7", RowEdgesTest::firstRules);
+        Check.sentence("RULES at first: SAME for all registers, but VALUE 0 for register 7",
+            RowEdgesTest::firstRules);
         Check.sentence("and UNDEFINED for the return register (also if it is 7)", RowEdgesTest::firstRuleOfReturn);
         Check.sentence("CFA isn't told.", RowEdgesTest::cfaAtFirst);
         Check.sentence("The row of a frame entry at pc: its common entry's instructions, then its own",
@@ -83,6 +85,7 @@ public final class RowEdgesTest {
     }
 
     private static void row() {
+        Check.sentence("The row at pc: of register r, or of CFA (r = -1)", RowEdgesTest::registersAndCfa);
         Check.sentence("its kind (what = 0): 0 UNDEFINED, 1 SAME, 2 OFFSET, 3 VALUE, 4 REGISTER, 5 EXPRESSION,"
             + " 6 VALUE EXPRESSION", RowEdgesTest::kinds);
         Check.sentence("of CFA 0 not told, 1 a register and a number, 2 an expression", RowEdgesTest::kindsOfCfa);
@@ -168,7 +171,9 @@ public final class RowEdgesTest {
         Expect.rule(factors(0x40000000, 1, 0x44, 7, 0), 0, 0, UNDEFINED, 0, 0);
         // The place goes -1 on, from 5 to 4.
         begins(factors(-1, 1, 1, 5, 0, 0, 0, 0x41, 7, 0), 0, 5);
-        begins(Code.load(Code.common(1, 1, 6), Code.frame(0, 8, 8, 4, 2, 0, 0, 0, 4, 255, 255, 255, 255, 7, 0)), 0, 10);
+        // The place goes 2 on and 2^32 - 1 on, from 8 to 10 and to 9.
+        byte[] frame = Code.frame(0, 8, 8, 4, 2, 0, 0, 0, 4, 255, 255, 255, 255, 7, 0);
+        begins(Code.load(Code.common(1, 1, 6), frame), 0, 10);
     }
 
     private static void shortOffset() {
@@ -443,6 +448,14 @@ public final class RowEdgesTest {
         Check.same("find(0)", x.find(0), 1);
         x.feed(0);
         Check.refused("find(0) with bytes behind", IllegalStateException.class, () -> x.find(0));
+    }
+
+    private static void registersAndCfa() {
+        FrameUnwinder x = frameWith(0x80, 1, 0x81, 2, 0x82, 3, 0x83, 4, 0x84, 5, 0x85, 6, 0x86, 7, 0x87, 8, 12, 3, 9);
+        Expect.rule(x, 0, -1, CFA_REGISTER, 9, 3);
+        for (int r = 0; r < 8; r++) {
+            Expect.rule(x, 99, r, OFFSET, -4 * (r + 1), 0);
+        }
     }
 
     private static FrameUnwinder everyKind() {

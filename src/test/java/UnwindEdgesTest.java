@@ -150,7 +150,8 @@ public final class UnwindEdgesTest {
 
     private static void undefinedReturn() {
         for (int back = 0; back < 8; back++) {
-            FrameUnwinder x = filled(Code.common(1, 4, back, 12, 1, 2), Code.frame(0, 0, 9, 0x45, 8, back, 0x43, 7, back));
+            byte[] frame = Code.frame(0, 0, 9, 0x45, 8, back, 0x43, 7, back);
+            FrameUnwinder x = filled(Code.common(1, 4, back, 12, 1, 2), frame);
             Expect.stays(BASE, x, 0, "return register " + back + " at first");
             x.start(8);
             Expect.stays(BASE, x, 0, "return register " + back + " in the end");
@@ -324,7 +325,7 @@ public final class UnwindEdgesTest {
     private static void cfaNotTold() {
         Expect.stays(NOT_TOLD, frameWith(), 0, "no instructions");
         Expect.stays(NOT_TOLD, frameWith(5, 0, 1, 22, 1, 1, 255), 0, "registers that would fail, too");
-        Expect.stays(NOT_TOLD, frameWith(10, 12, 7, 0, 11), 0, "CFA that was told, but not in the row that came back");
+        Expect.stays(NOT_TOLD, frameWith(10, 12, 7, 0, 11), 0, "CFA that isn't told in the row that came back");
         FrameUnwinder x = frameWith(0x45, 12, 7, 0);
         x.start(4);
         Expect.stays(NOT_TOLD, x, 0, "CFA that is told further on");
