@@ -179,8 +179,16 @@ public final class ReckonEdgesTest {
         Expect.fails(STACK, 49, 50, 51, 21, 255);
         Expect.fails(STACK, 21, 0);
         Expect.gives(5, Code.join(Code.of(53), fill(49, 14), Code.of(21, 14)));
-        Expect.fails(STACK, Code.join(Code.of(53), fill(49, 14), Code.of(21, 15)));
-        Expect.fails(STACK, Code.join(SIXTEEN, Code.of(21, 15)));
+        // What comes behind keeps an operation that was left out from failing by an empty stack.
+        for (int n = 0; n < 256; n++) {
+            int most = Math.min(n, 15);
+            Expect.fails(STACK, Code.join(fill(49, most), Code.of(21, n), Code.of(150)));
+            Expect.fails(STACK, Code.join(SIXTEEN, Code.of(21, n), Code.of(150)));
+            if (n < 15) {
+                Expect.gives(5, Code.join(Code.of(53), fill(49, n), Code.of(21, n)));
+            }
+        }
+        Expect.fails(STACK, 21, 0, 49);
     }
 
     private static void changes() {
@@ -495,11 +503,15 @@ public final class ReckonEdgesTest {
 
     private static void tooMany() {
         int[][] pushing = {{3, 0, 0, 0, 0}, {8, 0}, {9, 0}, {10, 0, 0}, {11, 0, 0}, {13, 0, 0, 0, 0}, {16, 0},
-            {17, 0}, {18}, {20}, {21, 0}, {21, 14}, {48}, {79}, {112, 0}, {119, 0}};
+            {17, 0}, {18}, {20}, {21, 0}, {21, 14}};
         for (int[] operation : pushing) {
-            Expect.fails(STACK, Code.join(SIXTEEN, Code.of(operation)));
-            byte[] fits = Code.join(FIFTEEN, Code.of(operation));
-            Check.same("reckon() of operation " + operation[0] + " on fifteen", answer(fits, 99), 0);
+            oneTooMany(operation);
+        }
+        for (int small = 48; small < 80; small++) {
+            oneTooMany(small);
+        }
+        for (int r = 0; r < 8; r++) {
+            oneTooMany(112 + r, 0);
         }
         int[] others = {19, 22, 23, 25, 26, 27, 28, 29, 30, 31, 32, 33, 34, 36, 37, 38, 39, 41, 42, 43, 44, 45, 46,
             150};
@@ -507,6 +519,12 @@ public final class ReckonEdgesTest {
             byte[] fits = Code.join(SIXTEEN, Code.of(operation));
             Check.same("reckon() of operation " + operation + " on sixteen", answer(fits, 99), 0);
         }
+    }
+
+    private static void oneTooMany(int... operation) {
+        Expect.fails(STACK, Code.join(SIXTEEN, Code.of(operation)));
+        byte[] fits = Code.join(FIFTEEN, Code.of(operation));
+        Check.same("reckon() of operation " + operation[0] + " on fifteen", answer(fits, 99), 0);
     }
 
     private static void tooFew() {
@@ -518,7 +536,8 @@ public final class ReckonEdgesTest {
             byte[] enough = Code.join(fill(52, need[0]), operation);
             Check.same("reckon() of operation " + need[1] + " on " + need[0], answer(enough, 99), 0);
             for (int fewer = 0; fewer < need[0]; fewer++) {
-                Expect.fails(STACK, Code.join(fill(52, fewer), operation));
+                // The number behind it, so that it can't be the end that has none.
+                Expect.fails(STACK, Code.join(fill(52, fewer), operation, Code.of(49)));
             }
         }
     }
@@ -563,6 +582,21 @@ public final class ReckonEdgesTest {
         Check.same("reckon() of register 0, known again", x.reckon(0, 2, 9), 0);
         Check.same("reckon() of register 7, known again", x.reckon(4, 6, 9), 0);
         Check.same("value()", x.value(), 9);
+        for (int r = 0; r < 8; r++) {
+            withoutRegister(r);
+        }
+    }
+
+    private static void withoutRegister(int lost) {
+        int back = lost == 6 ? 5 : 6;
+        FrameUnwinder x = Code.load(Code.common(1, 1, back, 12, 7, 0, 8, back, 7, lost), Code.frame(0, 0, 9));
+        Check.same("unwind()", x.unwind(0), 0);
+        x.end(0);
+        Code.feed(x, Code.of(112, 0, 113, 0, 114, 0, 115, 0, 116, 0, 117, 0, 118, 0, 119, 0));
+        for (int r = 0; r < 8; r++) {
+            Check.same("reckon() of register " + r + " without " + lost, x.reckon(2 * r, 2 * r + 2, 9),
+                r == lost ? READ : 0);
+        }
     }
 
     private static void divisionByZero() {

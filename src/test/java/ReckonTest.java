@@ -67,10 +67,19 @@ public final class ReckonTest {
         Expect.gives(-1, 17, 255, 255, 255, 127);
         Expect.gives(0x0FFFFFFF, 17, 255, 255, 255, 255, 0x40);
         Expect.gives(MIN, 17, 128, 128, 128, 128, 8);
-        Expect.fails(BYTES, 16, 128, 128, 128, 128, 128, 0);
-        Expect.fails(BYTES, 17, 255, 255, 255, 255, 255, 127);
-        Expect.fails(BYTES, 112, 255, 255, 255, 255, 255, 127);
-        Expect.fails(BYTES, 48, 35, 128, 128, 128, 128, 128, 0);
+        numbersOfSixBytes();
+    }
+
+    /** 18 behind five bytes would work as an operation: only the number's length can fail. */
+    private static void numbersOfSixBytes() {
+        Expect.gives(5, 16, 133, 128, 128, 128, 0, 18);
+        Expect.fails(BYTES, 16, 133, 128, 128, 128, 128, 18);
+        Expect.fails(BYTES, 17, 133, 128, 128, 128, 128, 18);
+        Expect.fails(BYTES, 48, 35, 133, 128, 128, 128, 128, 18);
+        for (int r = 0; r < 8; r++) {
+            Expect.gives(5, 112 + r, 133, 128, 128, 128, 0, 18);
+            Expect.fails(BYTES, 112 + r, 133, 128, 128, 128, 128, 18);
+        }
     }
 
     private static void smallNumbersAndRegisters() {

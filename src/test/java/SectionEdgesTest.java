@@ -178,9 +178,10 @@ public final class SectionEdgesTest {
 
     private static void fiveBytes() {
         Expect.gives(5, 16, 133, 128, 128, 128, 0);
-        Expect.fails(BYTES, 16, 133, 128, 128, 128, 128, 0);
+        // 18 would work as an operation, so that only the number's length can fail.
+        Expect.fails(BYTES, 16, 133, 128, 128, 128, 128, 18);
         Expect.gives(-5, 17, 251, 255, 255, 255, 127);
-        Expect.fails(BYTES, 17, 251, 255, 255, 255, 255, 127);
+        Expect.fails(BYTES, 17, 251, 255, 255, 255, 255, 18);
         Expect.sound("a code factor of five bytes", 1, commonOf(1, 129, 128, 128, 128, 0, 1, 6));
         Expect.fault("a code factor of six bytes", 9, commonOf(1, 129, 128, 128, 128, 128, 0, 1, 6));
         Expect.sound("a data factor of five bytes", 1, commonOf(1, 1, 255, 255, 255, 255, 127, 6));

@@ -259,6 +259,8 @@ public final class UnwindEdgesTest {
             Check.same("unwind() of CFA and 15 numbers", frameWith(full).unwind(15), 0);
             int[] more = {12, 7, 2, rule, 0, 16, 52, 52, 52, 52, 52, 52, 52, 52, 52, 52, 52, 52, 52, 52, 52, 52};
             Expect.stays(STACK, frameWith(more), 16, "CFA and 16 numbers by " + rule);
+            more[more.length - 1] = 156;
+            Expect.stays(STACK, frameWith(more), 16, "CFA, 15 numbers and CFA by " + rule);
         }
         for (int address : new int[] {-4, -3, 2, 1022, 1024}) {
             int[] code = {12, 7, 2, 16, 0, 4, 11, address & 255, address >> 8 & 255, 150};

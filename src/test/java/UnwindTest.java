@@ -1,3 +1,5 @@
+import java.util.Arrays;
+
 /** Promise 14 (unwind). */
 public final class UnwindTest {
     private static final int FUEL = 1;
@@ -115,7 +117,16 @@ public final class UnwindTest {
         Expect.stays(READ, frameWith(15, 2, 49, 6), 9, "CFA of a bad address");
         Expect.stays(DIVISION, frameWith(15, 3, 49, 48, 27), 9, "CFA divided by 0");
         Expect.stays(BYTES, frameWith(15, 4, 49, 47, 1, 0, 0, 0), 9, "CFA with a jump beyond its end");
-        Expect.stays(BYTES, frameWith(0, 15, 4, 49, 47, 0xFB, 0xFF), 9, "CFA with a jump before its beginning");
+        Expect.stays(BYTES, frameWith(jumpBefore(15)), 9, "CFA with a jump before its beginning");
+    }
+
+    /** An expression of 18 bytes; its jump goes to this 18 ahead of it, which would work as an operation. */
+    private static int[] jumpBefore(int... ahead) {
+        int[] instructions = Arrays.copyOf(ahead, ahead.length + 19);
+        Arrays.fill(instructions, ahead.length, instructions.length, 150);
+        int[] begins = {18, 49, 47, 0xFB, 0xFF};
+        System.arraycopy(begins, 0, instructions, ahead.length, begins.length);
+        return instructions;
     }
 
     private static void everyRule() {
@@ -211,6 +222,8 @@ public final class UnwindTest {
         for (int rule : new int[] {16, 22}) {
             Expect.stays(FUEL, frameWith(12, 7, 2, rule, 0, 1, 150), 0, "no fuel by " + rule);
             Expect.stays(BYTES, frameWith(12, 7, 2, rule, 0, 1, 255), 9, "no such operation by " + rule);
+            Expect.stays(BYTES, frameWith(jumpBefore(12, 7, 2, rule, 0)), 9, "a jump before it by " + rule);
+            Expect.stays(BYTES, frameWith(12, 7, 2, rule, 0, 3, 47, 1, 0, 0), 9, "a jump beyond it by " + rule);
             Expect.stays(STACK, frameWith(12, 7, 2, rule, 0, 1, 19), 9, "an empty stack by " + rule);
             Expect.stays(READ, frameWith(12, 7, 2, rule, 0, 2, 49, 6), 9, "a bad address by " + rule);
             Expect.stays(DIVISION, frameWith(12, 7, 2, rule, 0, 2, 48, 29), 9, "a division by " + rule);
